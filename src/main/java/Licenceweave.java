@@ -1625,7 +1625,7 @@ public final class Licenceweave {
 
     private void writeShare(long amount) {
         long above = amount;
-        long below = amount == 0 ? 1 : SHARE;
+        long below = SHARE;
         for (int k = 0; k < SHARE_TWOS && above % 2 == 0 && below % 2 == 0; k++) {
             above /= 2;
             below /= 2;

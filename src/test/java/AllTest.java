@@ -77,13 +77,14 @@ public final class AllTest {
         x.maker(0, 0, 60);
         x.maker(1, 1, 50);
         x.shown(0, 33);
-        x.shown(2, 50);
+        x.shown(2, 60);
         x.death(1, 90);
         x.use(1, 0, 1, 30);
         x.use(2, 0, 3, 4);
         x.words(0, 0, 1, 2, 3, -1);
+        x.words(2, 3, 5, 2, 3, 1);
         x.floor(1, 12);
-        x.land(0, 60, 50, 3, false);
+        x.land(0, 60, 40, 3, false);
         x.land(2, 20, 90, 3, true);
         x.list(2, 1, 2);
         x.licence(63, 15, 0, false);
@@ -95,7 +96,7 @@ public final class AllTest {
         x.hand(1, 1, 3, 20, 30, 100);
         x.behind(30);
         x.cap(0, 40);
-        x.advance(1, 50);
+        x.advance(1, 500);
         x.sale(1, 0, 100, 200);
         x.say(0, 10, 10, 11, -1, -1);
         return x;
@@ -119,7 +120,7 @@ public final class AllTest {
             for (int person = 0; person < 8; person++) {
                 text.append(' ').append(x.chain(k, person, 58)).append(x.holds(k, person, 110));
             }
-            text.append(' ').append(x.likeness(k, 0, 1));
+            text.append(' ').append(x.likeness(k, 0, 2));
         }
         for (int k = 0; k <= 8; k++) {
             for (int what = 0; what <= 4; what++) {
