@@ -1,0 +1,72 @@
+/** Tells in a text what a registry holds, by what can be asked of it: by less than 300 calls. */
+final class View {
+    private View() {
+    }
+
+    /** All of it, then STEP BACK by STEP BACK what was ahead. */
+    static String trail(Licenceweave x) {
+        StringBuilder text = new StringBuilder(whole(x));
+        for (int k = 0; k <= 8; k++) {
+            try {
+                text.append("\nback ").append(x.undo());
+            } catch (RuntimeException e) {
+                return text.append("\nback ").append(e.getClass().getName()).toString();
+            }
+            text.append(' ').append(brief(x));
+        }
+        return text.append(" and more").toString();
+    }
+
+    static String brief(Licenceweave x) {
+        StringBuilder text = new StringBuilder().append(x.digest()).append(' ').append(x.typed());
+        for (int k = 0; k + 1 < x.house(0); k += 2) {
+            text.append(' ').append(x.likeness(k, k + 1, 1));
+        }
+        return text.toString();
+    }
+
+    static String whole(Licenceweave x) {
+        StringBuilder text = new StringBuilder().append(x.digest()).append(' ').append(x.typed());
+        for (int what = 0; what <= 8; what++) {
+            text.append("\nhouse ").append(what).append(' ').append(x.house(what));
+        }
+        for (int k = 0; k < x.house(1); k++) {
+            text.append("\nlicence ").append(k).append(' ').append(x.line(k));
+        }
+        int works = x.house(0);
+        for (int k = 0; k < works; k++) {
+            text.append("\nwork ").append(k).append(':');
+            for (int land = 0; land < 3; land++) {
+                text.append(' ').append(x.choice(k, land, 80, 1)).append(", ").append(x.notices(k, land, 80));
+            }
+            for (int hand = 0; hand <= 8; hand++) {
+                text.append(' ').append(x.share(k, 2, 95, hand));
+            }
+            text.append(' ').append(x.chain(k, (k + 3) % 8, 100));
+            for (int m = 0; m < works; m++) {
+                text.append(' ').append(x.likeness(k, m, 1)).append(' ').append(x.likeness(k, m, 3));
+            }
+        }
+        return text.toString();
+    }
+
+    /** What calls tell that change something: the LISTS and the LIFE of each LAND, and who was SHOWN. */
+    static String probes(Licenceweave x) {
+        StringBuilder text = new StringBuilder();
+        int works = x.house(0);
+        for (int land = 0; land < 3; land++) {
+            text.append("\nland ").append(land).append(' ').append(x.land(land, 1, 1, 1, false));
+            for (int k = 0; k < works; k++) {
+                text.append(' ').append(x.list(land, k, 0));
+            }
+        }
+        for (int k = 0; k < works; k++) {
+            text.append("\nshown ").append(k).append(' ').append(x.shown(k, -1)).append(' ').append(x.floor(k, 0));
+        }
+        for (int k = 0; k < 8; k++) {
+            text.append("\nperson ").append(k).append(' ').append(x.death(k, -1)).append(' ').append(x.cap(k, -1));
+            text.append(' ').append(x.advance(k, 0));
+        }
+        return text.append("\nbehind ").append(x.behind(0)).append(" knocks ").append(x.knock()).toString();
+    }
+}
