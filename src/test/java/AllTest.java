@@ -55,16 +55,21 @@ public final class AllTest {
             x -> x.back(0, 95), x -> x.takeBack(0, 0, 110), x -> x.behind(7), x -> x.advance(2, 9),
             x -> x.cap(2, 90), x -> x.floor(0, 8), x -> x.sale(1, 0, 100, 77)};
         for (int k = 0; k < changes.length; k++) {
+            String before = all(some());
             Licenceweave x = some();
-            String before = all(x);
             changes[k].on(x);
             String after = all(x);
             due.is("22: change " + k + " changes something", after.equals(before), false);
             due.is("22: one STEP more of change " + k, x.house(6), 8);
-            x.undo();
-            due.is("22: change " + k + " undone", all(x), before);
-            changes[k].on(x);
-            due.is("22: change " + k + " done again", all(x), after);
+            Licenceweave y = some();
+            changes[k].on(y);
+            y.undo();
+            due.is("22: change " + k + " undone", all(y), before);
+            Licenceweave z = some();
+            changes[k].on(z);
+            z.undo();
+            changes[k].on(z);
+            due.is("22: change " + k + " done again", all(z), after);
         }
     }
 

@@ -20,12 +20,12 @@ public final class RoomTest {
             due.is("400 checksums: " + digests + " bytes", digests < ALL_BYTES / 20, true);
             before = bean.getThreadAllocatedBytes(id);
             Licenceweave y = full();
-            for (int k = 0; k < 100; k++) {
+            for (int k = 0; k < 80; k++) {
                 sum += y.notices(6, 0, 100).length() + y.choice(6, 0, 100, 0).length() + y.share(6, 0, 90, 0).length();
                 sum += y.takeBack(0, 0, 100) + y.undo();
             }
             long others = bean.getThreadAllocatedBytes(id) - before;
-            due.is("500 other calls: " + others + " bytes", others < ALL_BYTES / 20, true);
+            due.is("400 other calls: " + others + " bytes", others < ALL_BYTES / 20, true);
         }
         due.is("they were made", sum != 0, true);
         due.end();

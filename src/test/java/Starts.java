@@ -98,7 +98,7 @@ final class Starts {
         x.behind(30);
         x.offer(3, 2, true);
         x.list(1, 3, 1);
-        return type(x, "c//+");
+        return type(x, "c/n+");
     }
 
     /** 7 WORKS, 8 LICENCES, 16 ENTRIES, 8 STEPS BACK, TYPED 20 long; the WORK 0 has 3 LICENCES and 20 WORDS. */
