@@ -244,14 +244,15 @@ public final class AllTest {
         due.is("48: an empty one", empty.digest(), d);
         Licenceweave x = some();
         due.is("48: by its calls", x.digest(), digest(x));
-        x.hand(0, 0, 1, 60, 100, 100);
-        x.knock();
-        x.shown(2, 60);
-        x.licence(1, 0, 0, true);
-        x.offer(2, 2, true);
-        x.sale(1, 0, 30, 100);
-        due.is("48: by its calls, then", x.digest(), digest(x));
-        due.is("48: once more", x.digest(), digest(x));
+        Licenceweave y = some();
+        y.hand(0, 0, 1, 60, 100, 100);
+        y.knock();
+        y.shown(2, 60);
+        y.licence(1, 0, 0, true);
+        y.offer(2, 2, true);
+        y.sale(1, 0, 30, 100);
+        due.is("48: once more", y.digest(), y.digest());
+        due.is("48: by its calls, then", y.digest(), digest(y));
     }
 
     private static long digest(Licenceweave x) {
