@@ -7,6 +7,7 @@ public final class EdgeOfAllTest {
         promise22();
         promise22Eight();
         promise22Each();
+        promise22Full();
         promise22NoStep();
         promise23();
         promise43();
@@ -106,7 +107,7 @@ public final class EdgeOfAllTest {
             + " to undo takes the last one.");
         Edge.Call[] calls = {x -> x.work(300, 2), x -> x.maker(2, 7, 1), x -> x.shown(0, -1), x -> x.death(0, -1),
             x -> x.use(3, 0, 0, 0), x -> x.words(0, 5, -1, -1, -1, -1), x -> x.land(2, 0, 100, 0, false),
-            x -> x.list(2, 1, 0), x -> x.licence(0, 0, 0, false), x -> x.offer(0, 1, true), x -> x.offer(0, 0, false),
+            x -> x.list(2, 1, 1), x -> x.licence(0, 0, 0, false), x -> x.offer(0, 1, true), x -> x.offer(0, 0, false),
             x -> x.say(13, 10, 10, -1, -1, -1), x -> x.hand(0, 0, 7, 1, 0, 300), x -> x.back(1, 30),
             x -> x.takeBack(0, 0, 70), x -> x.behind(0), x -> x.advance(7, 1), x -> x.cap(0, -1), x -> x.floor(0, 1),
             x -> x.sale(1, 0, 20, 9999)};
@@ -134,6 +135,43 @@ public final class EdgeOfAllTest {
         }
         Licenceweave x = Starts.type(rested(Starts.SOME), "!//");
         edge.is("learn", Edge.all(x.learn(), x.house(6), x.undo(), x.typed(), x.house(1)), "3 2 1 // 3");
+    }
+
+    /** All that is kept is there again, also the last thing of each kind. */
+    private static void promise22Full() {
+        edge.says(22, "all is as ahead of it (with TYPED; but how many were REFUSED ever stays)");
+        Edge.Start[] starts = {Starts.SOME, Starts.FULL, () -> Starts.greatest(), () -> Starts.licences(8, 7)};
+        for (Edge.Start start : starts) {
+            String before = View.still(start);
+            edge.is("a call, undone", View.still(() -> undone(behind(start.make(), 1), 1)), before);
+            edge.is("eight calls, undone", View.still(() -> undone(behind(start.make(), 8), 8)), before);
+            edge.is("undone, and done again", View.still(() -> behind(undone(behind(start.make(), 1), 1), 1)),
+                View.still(() -> behind(start.make(), 1)));
+        }
+        Edge.Call[] calls = {x -> x.shown(6, -1), x -> x.death(7, -1), x -> x.use(6, 5, 3, 0),
+            x -> x.words(1, 5, -1, -1, -1, -1), x -> x.land(0, 1, 1, 1, false), x -> x.land(2, 1, 1, 1, true),
+            x -> x.list(2, 6, 1), x -> x.offer(6, 7, true), x -> x.offer(0, 0, false),
+            x -> x.say(12, 12, 12, 12, 12, 0),
+            x -> x.back(15, 0), x -> x.back(0, 90), x -> x.takeBack(0, 7, 300), x -> x.advance(7, 1), x -> x.cap(7, 1),
+            x -> x.floor(6, 9999), x -> x.sale(6, 2, 300, 9999)};
+        String before = View.still(Starts.FULL);
+        for (int k = 0; k < calls.length; k++) {
+            Edge.Call call = calls[k];
+            edge.is("undone in a full one: " + k, View.still(() -> undone(called(call), 1)), before);
+        }
+    }
+
+    private static Licenceweave called(Edge.Call call) {
+        Licenceweave x = Starts.FULL.make();
+        call.on(x);
+        return x;
+    }
+
+    private static Licenceweave behind(Licenceweave x, int count) {
+        for (int k = 1; k <= count; k++) {
+            x.behind(k);
+        }
+        return x;
     }
 
     private static void promise22NoStep() {

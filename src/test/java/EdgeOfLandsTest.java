@@ -49,11 +49,11 @@ public final class EdgeOfLandsTest {
         }
         edge.says(8, "Throws IndexOutOfBoundsException if there is no such LAND");
         edge.range(Starts.EMPTY, Edge.INDEX, "land", 0, 2, (x, v) -> x.land(v, 1, 1, 1, true), 70, 70);
-        edge.range(Starts.SOME, Edge.INDEX, "land", 0, 2, (x, v) -> x.land(v, 1, 1, 1, true), 60, 20);
+        edge.range(Starts.SOME, Edge.INDEX, "land", 0, 2, (x, v) -> x.land(v, 1, 1, 1, true), 60, 99);
         edge.says(8, "Throws IllegalArgumentException if life, show or quote is not 0 to 100");
         edge.range(Starts.SOME, Edge.ARGUMENT, "life", 0, 100, (x, v) -> x.land(0, v, 1, 1, true), 60, 60);
         edge.range(Starts.SOME, Edge.ARGUMENT, "show", 0, 100, (x, v) -> x.land(1, 1, v, 1, true), 80, 80);
-        edge.range(Starts.SOME, Edge.ARGUMENT, "quote", 0, 100, (x, v) -> x.land(2, 1, 1, v, false), 20, 20);
+        edge.range(Starts.SOME, Edge.ARGUMENT, "quote", 0, 100, (x, v) -> x.land(2, 1, 1, v, false), 99, 99);
         edge.several(8);
         edge.out(Starts.SOME, Edge.INDEX, "no LAND, no LIFE", x -> x.land(3, 101, 1, 1, true));
         edge.out(Starts.SOME, Edge.INDEX, "no LAND, no SHOW", x -> x.land(-1, 1, -1, 1, true));
@@ -199,6 +199,15 @@ public final class EdgeOfLandsTest {
         return x.end(1, 0);
     }
 
+    /** By the SHORTER term, END of a WORK that was SHOWN in the YEAR 0. */
+    private static int zero(int show, int homeShow) {
+        Licenceweave x = Starts.made(0, 0);
+        x.shown(1, 0);
+        x.land(0, 0, show, 0, true);
+        x.land(1, 0, homeShow, 0, false);
+        return x.end(1, 0);
+    }
+
     private static void promise26Shorter() {
         edge.says(0, "if it takes the SHORTER one, and TERM by those of its HOME is less (none is more than all),"
             + " that.");
@@ -206,10 +215,15 @@ public final class EdgeOfLandsTest {
         edge.is("the same LIFE", shorter(50, 1, 50, 99, true), 80);
         edge.is("LIFE more by one", shorter(50, 1, 51, 99, true), 80);
         edge.is("no LIFE", shorter(100, 1, 0, 99, true), 30);
+        edge.is("no LIFE here", shorter(0, 1, 100, 99, true), 30);
         edge.is("SHOW less by one", shorter(1, 50, 99, 49, false), 69);
         edge.is("the same SHOW", shorter(1, 50, 99, 50, false), 70);
         edge.is("SHOW more by one", shorter(1, 50, 99, 51, false), 70);
         edge.is("no SHOW", shorter(1, 100, 99, 0, false), 20);
+        edge.is("0 at HOME", zero(9, 0), 0);
+        edge.is("0 here", zero(0, 9), 0);
+        edge.is("0 here and at HOME", zero(0, 0), 0);
+        edge.is("1 at HOME", zero(9, 1), 1);
         Licenceweave x = Starts.made(10, 10);
         x.land(0, 100, 100, 0, true);
         edge.is("no END here and at HOME", x.end(1, 0), -1);

@@ -5,7 +5,7 @@ import java.util.Set;
 public final class EdgeOfLicencesTest {
     private static final Edge edge = new Edge("EdgeOfLicencesTest");
     private static final String ALL = "cxgsvh/ntom/sx+";
-    private static final String TWENTY = ALL + "ccccc";
+    private static final String TWENTY = ALL + "cccc+";
 
     public static void main(String[] args) {
         promise10();
@@ -204,6 +204,22 @@ public final class EdgeOfLicencesTest {
         Edge.Call learn = x -> Edge.all(x.learn(), x.line(0), "[" + x.typed() + "]", x.house(7));
         edge.in(typed("//"), "the shortest LINE", learn, "0 // [] 0");
         edge.in(typed(ALL), "the longest one", learn, "0 " + ALL + " [] 0");
+        edge.in(typed(ALL), "the shortest one, when the longest one was asked for",
+            x -> Edge.all(x.fault(), Starts.type(x, "!//").learn(), x.line(0)), "-1 0 //");
+        edge.in(typed(ALL), "the longest one, then the shortest one",
+            x -> Edge.all(x.learn(), Starts.type(x, "//").learn(), x.line(1)), "0 1 //");
+        for (int k = 0; k < 128; k++) {
+            int set = k / 2 % 64;
+            int duties = k % 16;
+            int bans = k % 4;
+            boolean isAlike = k >= 64;
+            Licenceweave x = Starts.works(1);
+            x.licence(set, duties, bans, isAlike);
+            Starts.type(x, x.line(0));
+            edge.is("as one that came, not typed", Edge.all(x.learn(), x.line(1)), "1 " + x.line(0));
+            edge.is("they FIT", Edge.all(x.fits(1, 0), x.fits(0, 1)), isAlike ? "false false" : "true true");
+            edge.is("they are as good", Edge.all(x.wouldMay(0, 0, 0, 0, 1)), "" + x.wouldMay(0, 0, 0, 0, 0));
+        }
         edge.says(13, "Returns its number; -2 less the FAULT, if there is one (and nothing is changed).");
         Licenceweave one = new Licenceweave();
         for (int k = 0; k < 8; k++) {

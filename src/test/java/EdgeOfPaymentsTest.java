@@ -308,6 +308,9 @@ public final class EdgeOfPaymentsTest {
         edge.in(() -> earned100(), "the ADVANCE is taken off of what is EARNED", x -> Edge.all(x.cap(0, 110),
             x.advance(0, 20), x.sale(0, 0, 10, 50), x.ofHand(0, 2), x.ofHand(0, 3), x.ofHand(8, 3)),
             "-1 20 0 10 110 40");
+        edge.in(() -> two(), "what went for an ADVANCE is EARNED, too", x -> Edge.all(x.advance(0, 50),
+            x.sale(0, 0, 10, 50), x.cap(0, 60), x.sale(0, 0, 10, 50), x.ofHand(0, 3), x.ofHand(8, 3)),
+            "50 0 -1 10 60 40");
         edge.in(() -> earned100(), "of another one the CAP does not count", x -> Edge.all(x.cap(1, 0),
             x.sale(0, 0, 10, 50)), "-1 50");
     }

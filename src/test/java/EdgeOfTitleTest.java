@@ -119,6 +119,7 @@ public final class EdgeOfTitleTest {
         edge.several(14);
         edge.out(SEVEN, Edge.INDEX, "no WORK, from is to", x -> x.hand(7, 0, 0, 5, 10, 20));
         edge.out(SEVEN, Edge.INDEX, "no PERSON as from, no part", x -> x.hand(0, 8, 0, 0, 10, 20));
+        edge.out(SEVEN, Edge.INDEX, "no PERSON as to, no part", x -> x.hand(0, 0, 8, 101, 10, 20));
         edge.out(SEVEN, Edge.INDEX, "no PERSON as to, no YEAR", x -> x.hand(0, 0, -1, 5, 10, 301));
         edge.out(SEVEN, Edge.INDEX, "no PERSON as both", x -> x.hand(0, 8, 8, 5, 10, 20));
         edge.out(SIXTEEN, Edge.INDEX, "no WORK, 16", x -> x.hand(-1, 0, 1, 5, 10, 20));
@@ -270,6 +271,10 @@ public final class EdgeOfTitleTest {
             x -> Edge.all(x.takeBack(0, 0, 40), x.undo(), lasts.on(x), x.holds(0, 4, 40)), "2 7 60 59 60 10");
         edge.in(() -> soldTwice(), "one that was not VALID stays", x -> Edge.all(x.takeBack(0, 0, 40), told(x, 1)),
             "1 0 0 3 100 20 60 0 0");
+        edge.in(() -> soldAgain(), "all at once: one that was not VALID stays",
+            x -> Edge.all(x.takeBack(0, 0, 20), lasts.on(x), x.ofEntry(2, 6)), "1 19 10 60 1");
+        edge.in(() -> soldAgain(), "and ends the next time",
+            x -> Edge.all(x.takeBack(0, 0, 20), x.takeBack(0, 0, 20), lasts.on(x)), "1 1 19 10 19");
         edge.in(() -> soldTwice(), "in the first YEAR",
             x -> Edge.all(x.takeBack(0, 0, 20), told(x, 0), told(x, 1)), "1 0 0 2 100 20 19 1 -1 0 0 3 100 20 60 1 -1");
     }
@@ -278,6 +283,17 @@ public final class EdgeOfTitleTest {
     private static Licenceweave fromStart() {
         Licenceweave x = allYears();
         x.behind(0);
+        return x;
+    }
+
+    /** The same is sold twice, and something else in between. */
+    private static Licenceweave soldAgain() {
+        Licenceweave x = Starts.works(1);
+        x.maker(0, 0, 100);
+        x.behind(0);
+        x.hand(0, 0, 2, 100, 20, 60);
+        x.hand(0, 0, 3, 1, 10, 10);
+        x.hand(0, 0, 4, 100, 20, 60);
         return x;
     }
 

@@ -10,6 +10,7 @@ public final class EdgeOfWholesTest {
         promise34Bound();
         promise35();
         promise35Holds();
+        promise35Needed();
         promise35Best();
         promise36();
         promise36Wanted();
@@ -17,6 +18,7 @@ public final class EdgeOfWholesTest {
         promise37Joined();
         promise38();
         promise38Each();
+        promise38Makers();
         promise44();
         promise44Would();
         edge.end(34, 35, 36, 37, 38, 44);
@@ -254,6 +256,46 @@ public final class EdgeOfWholesTest {
         edge.in(() -> alike(7), "when it comes", x -> Edge.all(x.licence(1, 3, 0, true), x.may(1, 0, 0, true)), "7 3");
     }
 
+    /** What may be done with that WORK, when the last one is copied by 0, changed by 1, gathered by 2, quoted by 3. */
+    private static int shared(int work, int rights) {
+        Licenceweave x = Starts.works(7);
+        x.licence(rights, 0, 0, false);
+        x.licence(63, 0, 0, false);
+        x.licence(0, 15, 3, true);
+        x.offer(6, 0, true);
+        for (int k = 0; k < 4; k++) {
+            x.use(k, 6, k, 50);
+            x.offer(k, 1, true);
+            x.offer(k + 1, 1, true);
+        }
+        x.use(1, 0, 0, 1);
+        x.use(4, 1, 0, 1);
+        x.use(4, 2, 0, 1);
+        return x.may(work, 0, 0, false);
+    }
+
+    private static void promise35Needed() {
+        edge.says(0, "It HOLDS, if for each USE, not SMALL, by a PART of another PART that is BOUND, the LICENCE of the"
+            + " latter GIVES what is needed");
+        int[] needed = {1, 3, 4, 1, 7};
+        for (int work = 0; work <= 4; work++) {
+            for (int rights = 0; rights <= 7; rights++) {
+                boolean is = (needed[work] & ~rights) == 0;
+                edge.is("the WHOLE " + work + ", RIGHTS " + rights, shared(work, rights), is ? rights : -1);
+            }
+        }
+        edge.is("the one that is USED, alone", shared(6, 0), 0);
+        edge.is("one that makes no USE", shared(5, 0), -1);
+        Licenceweave x = Starts.licences(1, 7);
+        x.licence(61, 0, 0, false);
+        x.offer(0, 0, true);
+        x.offer(6, 1, true);
+        x.use(0, 6, 1, 0);
+        edge.is("changed by the first one", x.may(0, 0, 0, false), -1);
+        x.offer(6, 0, true);
+        edge.is("by another LICENCE", x.choice(0, 0, 0, 0), "0=0 6=0");
+    }
+
     /** Two LICENCES that FIT into none but the eighth one, OFFERING 0 and 1; 1 copies 0. */
     private static Licenceweave alike(int count) {
         Licenceweave x = Starts.works(2);
@@ -302,6 +344,16 @@ public final class EdgeOfWholesTest {
         }
         edge.is("three LICENCES for each of seven", z.choice(6, 0, 0, 63), "0=5 1=5 2=4 3=4 4=3 5=3 6=2");
         edge.is("all of them are the same", z.may(6, 0, 0, false), 63);
+        Licenceweave v = Starts.works(2);
+        v.licence(7, 0, 0, false);
+        v.licence(57, 0, 0, false);
+        v.licence(1, 0, 0, true);
+        v.use(1, 0, 0, 1);
+        v.offer(0, 0, true);
+        v.offer(1, 0, true);
+        v.offer(1, 1, true);
+        edge.is("more RIGHTS of one alone count nothing", Edge.all(v.may(1, 0, 0, false), v.choice(1, 0, 0, 0)),
+            "7 0=0 1=0");
         Licenceweave w = Starts.works(2);
         w.licence(63, 2, 0, false);
         w.licence(63, 1, 0, false);
@@ -449,6 +501,8 @@ public final class EdgeOfWholesTest {
             + " (one that is OFFERED by none CLASHES with itself, too).");
         edge.in(() -> alike(8), "JOINED by the last of 8", x -> x.clash(1, 0, 0), "-");
         edge.in(() -> alike(7), "not JOINED", x -> x.clash(1, 0, 0), "0 1");
+        edge.in(() -> alike(8), "by the same one",
+            x -> Edge.all(x.offer(1, 6, false), x.offer(1, 0, true), x.clash(1, 0, 0)), "0 1 -");
         for (int k = 0; k < 9; k++) {
             Licenceweave x = Starts.works(2);
             x.use(1, 0, 0, 1);
@@ -534,7 +588,22 @@ public final class EdgeOfWholesTest {
             x.use(1, 0, how, 100);
             edge.is("HOW " + how, x.notices(1, 0, 0), how == 1 ? "m0" : "");
             edge.is("the one that is changed, alone", x.notices(0, 0, 0), "");
+            Licenceweave y = Starts.works(7);
+            y.licence(63, 8, 0, false);
+            y.offer(0, 0, true);
+            y.offer(6, 0, true);
+            y.use(0, 6, how, 100);
+            edge.is("by the first one, HOW " + how, y.notices(0, 0, 0), how == 1 ? "m6" : "");
         }
+    }
+
+    private static void promise38Makers() {
+        edge.says(0, "\"n\" and each MAKER of BOUND PARTS whose LICENCE has the DUTY 0");
+        edge.in(() -> shownBy(0), "who HOLDS nothing any more",
+            x -> Edge.all(x.hand(6, 7, 5, 1, 0, 300), x.holds(6, 7, 0), x.notices(6, 0, 0)), "0 0 n0 n7");
+        edge.in(() -> shownBy(0), "who died", x -> Edge.all(x.death(7, 299), x.notices(6, 0, 0)), "-1 n0 n7");
+        edge.in(() -> shownBy(0), "of both, told once",
+            x -> Edge.all(x.maker(6, 0, 99), x.notices(6, 0, 0)), "100 n0 n7");
     }
 
     /** 6, that 7 made, changes 0, that 0 made; both are OFFERED by the LICENCE 0, that has one DUTY. */
@@ -597,6 +666,18 @@ public final class EdgeOfWholesTest {
         edge.in(() -> alike(8), "none would HOLD", x -> x.wouldMay(1, 0, 0, 1, 1), -1);
         edge.in(() -> alike(7), "both by the same one", x -> x.wouldMay(1, 0, 0, 1, 0), 1);
         edge.in(ROW, "in a row of seven", x -> x.wouldMay(6, 0, 0, 3, 0), 63);
+        Licenceweave x = Starts.works(2);
+        x.licence(63, 15, 0, false);
+        x.licence(1, 0, 0, false);
+        x.licence(63, 0, 0, false);
+        x.licence(1, 15, 0, true);
+        x.use(1, 0, 0, 1);
+        x.offer(1, 0, true);
+        x.offer(1, 1, true);
+        edge.is("the most RIGHTS, although with all DUTIES", x.wouldMay(1, 0, 0, 0, 2), 63);
+        edge.is("the most RIGHTS of both", x.wouldMay(1, 0, 0, 0, 1), 1);
+        x.offer(0, 1, true);
+        edge.is("the one that it is OFFERED by counts nothing", x.wouldMay(1, 0, 0, 0, 2), 63);
     }
 
     /** A WORK that is OFFERED by three of four LICENCES. */

@@ -154,6 +154,7 @@ public final class EdgeOfWorksTest {
         edge.says(3, "Throws IllegalStateException if it is a MAKER already, the parts would be above 100,"
             + " or there is an ENTRY of the WORK");
         edge.out(start, Edge.STATE, "a MAKER already", x -> x.maker(3, 2, 1));
+        edge.out(() -> oneMade(), Edge.STATE, "a MAKER of one hundredth already", x -> x.maker(0, 0, 99));
         edge.in(start, "a MAKER of another one", x -> x.maker(1, 2, 1), 1);
         edge.in(start, "when it is undone", x -> Edge.all(x.undo(), x.maker(3, 2, 1)), "6 1");
         edge.in(start, "just 100", x -> x.maker(0, 7, 10), 100);
@@ -176,6 +177,12 @@ public final class EdgeOfWorksTest {
         edge.out(start, Edge.ARGUMENT, "no part, above 100", x -> x.maker(0, 7, 101));
         edge.out(() -> entryOf(3, 2), Edge.ARGUMENT, "no part, an ENTRY", x -> x.maker(3, 5, 0));
         edge.out(Starts.FULL, Edge.INDEX, "all of them", x -> x.maker(0, 8, 0));
+    }
+
+    private static Licenceweave oneMade() {
+        Licenceweave x = Starts.works(1);
+        x.maker(0, 0, 1);
+        return x;
     }
 
     private static Licenceweave allMade() {
@@ -335,6 +342,7 @@ public final class EdgeOfWorksTest {
         edge.out(() -> allUsed(), Edge.STATE, "1 more than 100", x -> x.use(1, 3, 0, 1));
         edge.several(6);
         edge.out(start, Edge.INDEX, "no WORK, no HOW", x -> x.use(6, 0, 4, 10));
+        edge.out(start, Edge.INDEX, "no WORK as of, no HOW", x -> x.use(1, 6, 4, 10));
         edge.out(start, Edge.INDEX, "no WORK as of, no part", x -> x.use(1, -1, 0, 101));
         edge.out(start, Edge.INDEX, "no WORK, above 100", x -> x.use(1, 6, 0, 100));
         edge.out(Starts.FULL, Edge.INDEX, "no WORK, above 100", x -> x.use(6, 7, 0, 100));
@@ -479,11 +487,11 @@ public final class EdgeOfWorksTest {
         for (int k = 0; k <= 9; k++) {
             int what = k;
             edge.in(() -> Starts.made(0), "at least " + k, x -> x.ofWork(0, what), least[k]);
-            edge.in(() -> greatest(), "at most " + k, x -> x.ofWork(0, what), most[k]);
+            edge.in(() -> Starts.greatest(), "at most " + k, x -> x.ofWork(0, what), most[k]);
         }
         edge.says(24, "Returns that.");
-        edge.in(() -> greatest(), "the set of USES of another one", x -> x.ofWork(6, 5), 0);
-        edge.in(() -> greatest(), "the set of MAKERS of another one", x -> x.ofWork(1, 3), 0);
+        edge.in(() -> Starts.greatest(), "the set of USES of another one", x -> x.ofWork(6, 5), 0);
+        edge.in(() -> Starts.greatest(), "the set of MAKERS of another one", x -> x.ofWork(1, 3), 0);
         edge.says(24, "Throws IndexOutOfBoundsException if there is no such WORK");
         edge.out(Starts.EMPTY, Edge.INDEX, "without WORKS", x -> x.ofWork(0, 0));
         edge.range(Starts.SOME, Edge.INDEX, "work", 0, 3, (x, v) -> x.ofWork(v, 0), 10, 30);
@@ -493,26 +501,5 @@ public final class EdgeOfWorksTest {
         edge.several(24);
         edge.out(Starts.SOME, Edge.INDEX, "no WORK, no such thing", x -> x.ofWork(4, 10));
         edge.out(Starts.SOME, Edge.INDEX, "no WORK, no such thing", x -> x.ofWork(-1, -1));
-    }
-
-    /** The WORK 0 has of each thing as much as it can have. */
-    private static Licenceweave greatest() {
-        Licenceweave x = new Licenceweave();
-        for (int k = 0; k < 7; k++) {
-            x.work(300, 2);
-        }
-        for (int k = 0; k < 8; k++) {
-            x.maker(0, k, k == 7 ? 16 : 12);
-            x.licence(63, 0, 0, false);
-        }
-        for (int k = 1; k <= 6; k++) {
-            x.use(0, k, 0, k == 6 ? 20 : 16);
-        }
-        for (int k = 5; k <= 7; k++) {
-            x.offer(0, k, true);
-        }
-        x.shown(0, 300);
-        x.floor(0, 9999);
-        return Starts.letters(x, 0, "abcdefabcdefabcdefab");
     }
 }

@@ -58,6 +58,28 @@ final class Starts {
         return x;
     }
 
+    /** The WORK 0 has of each thing as much as it can have. */
+    static Licenceweave greatest() {
+        Licenceweave x = new Licenceweave();
+        for (int k = 0; k < 7; k++) {
+            x.work(300, 2);
+        }
+        for (int k = 0; k < 8; k++) {
+            x.maker(0, k, k == 7 ? 16 : 12);
+            x.licence(63, 0, 0, false);
+        }
+        for (int k = 1; k <= 6; k++) {
+            x.use(0, k, 0, k == 6 ? 20 : 16);
+        }
+        for (int k = 5; k <= 7; k++) {
+            x.offer(0, k, true);
+        }
+        x.shown(0, 300);
+        x.floor(0, 9999);
+        letters(x, 0, "abcdeabcdeabcdeabcdf");
+        return letters(x, 6, "f");
+    }
+
     /** Four WORKS, three LICENCES, three ENTRIES, eight STEPS BACK; all that it holds can be seen by what is asked. */
     private static Licenceweave some() {
         Licenceweave x = made(10, 20, 30, 30);
@@ -75,7 +97,7 @@ final class Starts {
         x.use(3, 2, 2, 20);
         x.land(0, 60, 40, 4, false);
         x.land(1, 80, 90, 10, false);
-        x.land(2, 20, 95, 3, true);
+        x.land(2, 99, 95, 3, true);
         x.list(2, 1, 2);
         x.licence(63, 15, 0, false);
         x.licence(31, 0, 3, true);
@@ -125,6 +147,7 @@ final class Starts {
         x.land(1, 0, 0, 0, false);
         x.list(2, 3, 1);
         x.list(2, 4, 2);
+        x.list(1, 6, 1);
         x.death(0, 0);
         x.death(7, 300);
         x.cap(1, 0);
@@ -140,6 +163,6 @@ final class Starts {
         x.hand(6, 1, 2, 100, 0, 300);
         x.shown(6, 300);
         x.knock();
-        return type(x, "cxgsvh/ntom/sx+ccccc");
+        return type(x, "cxgsvh/ntom/sx+cccc+");
     }
 }
