@@ -328,10 +328,24 @@ public final class EdgeOfAllTest {
                 edge.in(start, "it is sound, back " + k, x -> x.house(6) < count || undone(x, count).isSound(), true);
             }
         }
+        for (int year : new int[] {0, 49, 50, 99, 100, 101, 149, 150, 199, 200, 249, 250, 300}) {
+            edge.in(() -> shown(year), "FREE from " + (year + 51) + " on", x -> x.isSound(), true);
+        }
         edge.in(() -> Starts.works(1), "no MEET", x -> x.isSound(), true);
         edge.in(() -> Starts.works(7), "seven without anything", x -> x.isSound(), true);
         edge.in(Starts.FULL, "all is FREE in all LANDS", x -> allFree(x).isSound(), true);
         edge.in(Starts.FULL, "all went to the CHEST", x -> capped(x).isSound(), true);
+    }
+
+    /** Of two WORKS, one of which copies the other one, the first one was SHOWN in that YEAR. */
+    private static Licenceweave shown(int year) {
+        Licenceweave x = Starts.made(0, 0);
+        x.licence(1, 15, 3, false);
+        x.shown(0, year);
+        x.use(1, 0, 0, 50);
+        x.offer(0, 0, true);
+        x.offer(1, 0, true);
+        return x;
     }
 
     private static Licenceweave allFree(Licenceweave x) {
